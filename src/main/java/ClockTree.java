@@ -109,14 +109,12 @@ public final class ClockTree {
     }
 
     public int settle() {
-        for (int rounds = 1; rounds < MOST_SETTLING; rounds++) {
+        int rounds = 0;
+        do {
             playRound();
-            if (!changedInRound) {
-                return rounds;
-            }
-        }
-        playRound();
-        return MOST_SETTLING;
+            rounds++;
+        } while (changedInRound && rounds < MOST_SETTLING);
+        return rounds;
     }
 
     public int state(int node, int port) throws IllegalArgumentException {
@@ -230,7 +228,7 @@ public final class ClockTree {
             if (sender != null && node.accepts(sender.told)) {
                 changed = port.keep(sender.told);
             } else {
-                // A port whose sender is refused has nothing newer, so what it keeps grows old.
+                // A refused dataset keeps nothing fresh: else the tale of a lost root would never end in a ring.
                 changed = port.growOlder();
             }
             if (changed) {
