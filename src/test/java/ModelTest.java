@@ -400,8 +400,10 @@ public final class ModelTest {
         }
 
         void setUp() {
-            int link = about(Math.max(0, model.links.size() - 1));
-            boolean is = random.nextBoolean();
+            put(about(Math.max(0, model.links.size() - 1)), random.nextBoolean());
+        }
+
+        void put(int link, boolean is) {
             due("up(" + link + ", " + is + ")", () -> {
                 x.up(link, is);
                 return 0;
@@ -413,7 +415,10 @@ public final class ModelTest {
 
         void setPriority() {
             int node = aNode();
-            int priority = random.nextInt(4) == 0 ? about(255) : random.nextInt(spread + 1);
+            rank(node, random.nextInt(4) == 0 ? about(255) : random.nextInt(spread + 1));
+        }
+
+        void rank(int node, int priority) {
             due("priority(" + node + ", " + priority + ")", () -> {
                 x.priority(node, priority);
                 return 0;
@@ -484,6 +489,41 @@ public final class ModelTest {
             }
         }
 
+        /** Two nodes that tell each other of a lost root over three links, which takes them long to end. */
+        void playSlow() {
+            int[] identities = {6, 10, 7, 3, 5, 8, 2, 4, 9, 1};
+            int[] priorities = {7, 7, 4, 4, 13, 16, 18, 18, 18, 6};
+            for (int i = 0; i < 10; i++) {
+                int node = i;
+                due("node(" + identities[i] + ", " + priorities[i] + ", 0, 0, 0)",
+                        () -> x.node(identities[node], priorities[node], 0, 0, 0),
+                        () -> model.node(identities[node], priorities[node], 0, 0, 0));
+            }
+            joined(0, 1, 1, 2);
+            joined(0, 2, 1, 1);
+            joined(0, 3, 1, 3);
+            joined(0, 0, 2, 0);
+            joined(1, 0, 3, 0);
+            for (int i = 3; i < 9; i++) {
+                joined(i, 1, i + 1, 0);
+            }
+            put(2, false);
+            put(1, false);
+            due("round(2)", () -> x.round(2), () -> model.round(2));
+            put(2, true);
+            rank(3, 2);
+            due("round(1)", () -> x.round(1), () -> model.round(1));
+            put(1, true);
+            rank(3, 18);
+            due("settle()", () -> x.settle(), () -> model.settle());
+            lookAtAll();
+        }
+
+        void joined(int a, int p, int b, int q) {
+            due("link(" + a + ", " + p + ", " + b + ", " + q + ", 0, 0)",
+                    () -> x.link(a, p, b, q, 0, 0), () -> model.link(a, p, b, q, 0, 0));
+        }
+
         void play() {
             int nodes = 1 + random.nextInt(12);
             for (int i = 0; i < nodes; i++) {
@@ -504,6 +544,7 @@ public final class ModelTest {
     }
 
     public static void main(String[] args) {
+        new Run(0).playSlow();
         for (int seed = 0; seed < RUNS && wrong < 20; seed++) {
             new Run(seed).play();
         }
