@@ -133,6 +133,8 @@ public final class BoundaryTests {
     }
 
     private static void promises() {
+        firstOfTheHeadingIsThrown();
+        lastCallIsAnswered();
         newObjectHasNoNodes();
         upOfLinks();
         upChangesNothingAtOnce();
@@ -1104,6 +1106,38 @@ public final class BoundaryTests {
     }
 
     // The promises.
+
+    private static void firstOfTheHeadingIsThrown() {
+        sentence = "what is thrown: the first of those listed in the heading that holds";
+        ClockTree full = fullOfLinks();
+        sentence = "what is thrown: the first of those listed in the heading that holds";
+        due("node: argument and state", ARGUMENT, () -> full.node(0, 1, 1, 1, 1));
+        due("node: state alone", STATE, () -> full.node(10, 1, 1, 1, 1));
+        due("link: argument and both states", ARGUMENT, () -> full.link(0, 0, 1, 0, -1, 0));
+        due("link: argument and one state", ARGUMENT, () -> full.link(8, 0, 8, 1, 0, 0));
+        due("link: both states", STATE, () -> full.link(0, 0, 1, 0, 0, 0));
+        due("link: state alone", STATE, () -> full.link(8, 0, 9, 0, 0, 0));
+        ClockTree x = pair(0, 0, 0, 0);
+        due("exchange: argument, state and overflow", ARGUMENT, () -> x.exchange(0, MAX, -1, 0));
+        due("exchange: argument and state", ARGUMENT, () -> x.exchange(0, 0, 0, REST + 1));
+        due("exchange: argument and overflow", ARGUMENT, () -> x.exchange(1, MAX, 0, -1));
+        due("exchange: no such node, and overflow", ARGUMENT, () -> x.exchange(2, MAX, 0, 0));
+        due("exchange: state and overflow", STATE, () -> x.exchange(0, MAX, 0, 0));
+        due("exchange: overflow alone", ARITHMETIC, () -> x.exchange(1, MAX, 0, 0));
+        due("exchange: none of them", 0, () -> x.exchange(1, 0, 0, 0));
+        x.up(0, false);
+        due("exchange: cut, and overflow", STATE, () -> x.exchange(1, MAX, 0, 0));
+        due("exchange: cut, overflow and argument", ARGUMENT, () -> x.exchange(1, MAX, -1, -1));
+    }
+
+    private static void lastCallIsAnswered() {
+        sentence = "an object is used for at most 512 calls";
+        ClockTree x = pair(0, 0, 0, 0);
+        for (int call = 5; call <= 511; call++) {
+            x.round(50);
+        }
+        due("the 512th call", 50, () -> x.round(50));
+    }
 
     private static void newObjectHasNoNodes() {
         sentence = "a new object has no nodes";
