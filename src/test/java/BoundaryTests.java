@@ -312,23 +312,28 @@ public final class BoundaryTests {
         }
     }
 
-    private static ClockTree fullOfLinks() {
+    private static ClockTree tenNodes() {
         ClockTree x = new ClockTree();
         for (int i = 0; i < 10; i++) {
             x.node(i, i, 0, 0, 0);
         }
-        sentence = "links are numbered likewise, at most 16";
-        for (int i = 0; i < 16; i++) {
-            int number = i;
-            int first = i / 4 * 2;
-            due("link " + i, number, () -> x.link(first, number % 4, first + 1, number % 4, 1, 1));
-            dueOfVoid("there is none after it", ARGUMENT, () -> x.up(number + 1, true));
-        }
         return x;
     }
 
+    /** Four links between each two of the first eight nodes: 16 is all there may be, though two nodes have none. */
+    private static int makeLink(ClockTree x, int number) {
+        int first = number / 4 * 2;
+        return x.link(first, number % 4, first + 1, number % 4, 1, 1);
+    }
+
     private static void linksAreNumberedAndSixteenAtMost() {
-        ClockTree x = fullOfLinks();
+        sentence = "links are numbered likewise, at most 16";
+        ClockTree x = tenNodes();
+        for (int i = 0; i < 16; i++) {
+            int number = i;
+            due("link " + i, number, () -> makeLink(x, number));
+            dueOfVoid("there is none after it", ARGUMENT, () -> x.up(number + 1, true));
+        }
         due("a seventeenth", STATE, () -> x.link(8, 0, 9, 0, 1, 1));
         due("a seventeenth at ports that have one", STATE, () -> x.link(0, 0, 1, 0, 1, 1));
         due("a seventeenth from no node", ARGUMENT, () -> x.link(10, 0, 9, 0, 1, 1));
@@ -1109,8 +1114,10 @@ public final class BoundaryTests {
 
     private static void firstOfTheHeadingIsThrown() {
         sentence = "what is thrown: the first of those listed in the heading that holds";
-        ClockTree full = fullOfLinks();
-        sentence = "what is thrown: the first of those listed in the heading that holds";
+        ClockTree full = tenNodes();
+        for (int i = 0; i < 16; i++) {
+            makeLink(full, i);
+        }
         due("node: argument and state", ARGUMENT, () -> full.node(0, 1, 1, 1, 1));
         due("node: state alone", STATE, () -> full.node(10, 1, 1, 1, 1));
         due("link: argument and both states", ARGUMENT, () -> full.link(0, 0, 1, 0, -1, 0));
