@@ -228,7 +228,7 @@ public final class ClockTree {
             if (sender != null && node.accepts(sender.told)) {
                 changed = port.keep(sender.told);
             } else {
-                // A refused dataset keeps nothing fresh: else the tale of a lost root would never end in a ring.
+                // A port that refuses what it is sent is one of those that grow older: it does not keep that one instead.
                 changed = port.growOlder();
             }
             if (changed) {

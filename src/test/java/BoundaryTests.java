@@ -1295,8 +1295,9 @@ public final class BoundaryTests {
     /**
      * No network settles in more than 58 rounds, so that there is no outside: a tale whose root is
      * lost gets a step longer in 3 rounds at most, and so is dropped by round 45; then what is true
-     * goes over 9 links at most; what was told before that is dropped 3 rounds later; and the round
-     * that changes nothing is the last.
+     * goes over 9 links at most (or over 8, and then between two nodes that heard it at once); what
+     * was told before that is dropped 3 rounds later; and the round that changes nothing is the last.
+     * The longest settling that a search found is this one.
      */
     private static void settleIsSixtyAtMost() {
         sentence = "settle: but 60 at most";
